@@ -1,0 +1,12 @@
+/** Runs every test of the project; the first argument names the program's source. */
+final class Tests {
+    private Tests() {
+    }
+
+    public static void main(String[] args) {
+        PromiseTests.runAll();
+        ModelTests.runAll();
+        System.out.println(Checks.passes() + " passed, " + Checks.failures() + " failed");
+        System.exit(Checks.failures() == 0 ? 0 : 1);
+    }
+}
