@@ -181,6 +181,11 @@ final class PromiseTests {
         Towns.write(x, "Wb000x01wAx00x01wBx10s0201001t04s0201001x01b100");
         Checks.due("load() leaves out", x.load(), 7);
         Checks.due("streets", x.about(1), 1);
+        Checks.due("the shift of the new street", x.streetOf(0, 3), 0);
+        Towns.write(x, "WwAwBwCwDwEwFwGwHwIwJwK");
+        Checks.due("load() of 11 walkers", x.load(), 1);
+        Towns.write(x, "Ws0201001s0201001s0201001s0201001s0201001");
+        Checks.due("load() of 5 streets", x.load(), 1);
         Towns.write(x, "W");
         Checks.due("load() of W", x.load(), 0);
         about(x, 0, 0, 0, 0, 0, 0, 0, 0, 0, 0, 0, 0, 0);
@@ -221,10 +226,33 @@ final class PromiseTests {
         x.exchange(0, 5);
         Checks.same("the file", Towns.file(x), "245310");
         about(x, 6, 0, 0, 6, 0, 0, 0, 11, 3, 4, 3, 0, 0);
+        everyOrderOfFive();
         PlacardWalkers y = Towns.of("WwAwBwCwDwEwFs0201032r1m1t04t01");
         about(y, 6, 1, 5, 1, 2, 2, 1, 0, 6, 6, 0, 1, 1);
         for (int what : new int[] {-1, 13, LOW, HIGH}) {
             Checks.argument("about(" + what + ")", () -> x.about(what));
+        }
+    }
+
+    private static void everyOrderOfFive() {
+        for (int order = 0; order < 120; order++) {
+            PlacardWalkers x = Towns.of("WwAwBwAwCwB");
+            PlainTown plain = new PlainTown();
+            for (int letter : new int[] {0, 1, 0, 2, 1}) {
+                plain.walker(letter);
+            }
+            int rest = order;
+            for (int k = 1; k < 5; k++) {
+                int other = rest % (k + 1);
+                rest /= k + 1;
+                if (other != k) {
+                    x.exchange(k, other);
+                    plain.exchange(k, other);
+                }
+            }
+            for (int what = 7; what <= 10; what++) {
+                Checks.due("about(" + what + ") of " + Towns.file(x), x.about(what), plain.about(what));
+            }
         }
     }
 
@@ -500,7 +528,7 @@ final class PromiseTests {
         PlacardWalkers x = Towns.of("WwAwBwCwDwEwFs0201196r3t40");
         long drawn = 1;
         drawn = drawn * 6364136223846793005L + 1442695040888963407L;
-        Checks.due("the first draw", x.read(0, 1 - 1), (int) (drawn >>> 33) % 6);
+        Checks.due("the first draw", x.read(0, 0), (int) (drawn >>> 33) % 6);
         drawn = drawn * 6364136223846793005L + 1442695040888963407L;
         x.back();
         x.ticks(20);
@@ -584,6 +612,15 @@ final class PromiseTests {
         }
         Checks.same("drawn", Towns.read(x, 0), want.toString());
         drawsOnlyForThoseWhoLeave();
+        PlacardWalkers made = new PlacardWalkers();
+        for (int k = 0; k < 6; k++) {
+            made.walker(k);
+        }
+        made.street(2, 1, 19, 6);
+        made.set(0, 3);
+        made.ticks(99);
+        made.ticks(21);
+        Checks.same("drawn without load()", Towns.read(made, 0), want.toString());
     }
 
     /** Three leave before the next street is full, each the only one of its crowd; at 21 it lets one out. */
@@ -665,6 +702,20 @@ final class PromiseTests {
         Checks.due("undo() of the walker", y.undo(), 1);
         Checks.same("the state", Towns.look(y), before);
         undoTakesBackDraws();
+        undoTakesBackWhatWasRead();
+    }
+
+    private static void undoTakesBackWhatWasRead() {
+        PlacardWalkers x = Towns.of("WwAwBs0201001t05");
+        x.back();
+        x.exchange(0, 1);
+        x.ticks(5);
+        Checks.same("read the other way round", Towns.read(x, 0), "10");
+        x.undo();
+        x.undo();
+        Checks.same("read after back()", Towns.read(x, 0), "");
+        x.undo();
+        Checks.same("read at first", Towns.read(x, 0), "01");
     }
 
     private static void undoTakesBackDraws() {
@@ -777,7 +828,7 @@ final class PromiseTests {
             }
             Checks.due("bestShift(" + s + ")", y.bestShift(s), best);
         }
-        Checks.due("39", Towns.of("Wt01wAs0220201").bestShift(0), 0);
+        Checks.due("a light of 40 ticks", Towns.of("Wt01wAs0220201").bestShift(0), 0);
         for (int s : new int[] {-1, 1, LOW, HIGH}) {
             Checks.index("bestShift(" + s + ")", () -> x.bestShift(s));
         }
@@ -812,7 +863,8 @@ final class PromiseTests {
         Checks.same("the lowest greater of equals", "" + z.bestExchange(0) + z.bestExchange(1) + z.bestExchange(2), "021");
         PlacardWalkers come = Towns.of("WwAwBwCx02s0201001t04");
         Checks.same("who has come is not exchanged", come.bestExchange(0) + " " + come.bestExchange(1), "0 1");
-        for (PlacardWalkers none : new PlacardWalkers[] {new PlacardWalkers(), Towns.of("WwAwB")}) {
+        PlacardWalkers[] mended = {new PlacardWalkers(), Towns.of("WwAwB"), Towns.of("WwAwBwCs0201001t04")};
+        for (PlacardWalkers none : mended) {
             Checks.due("none", none.bestExchange(0), NONE);
             Checks.due("none", none.bestExchange(1), NONE);
             Checks.due("none", none.bestExchange(2), 0);
@@ -880,6 +932,11 @@ final class PromiseTests {
                     Checks.state("undo()", x::undo);
                 }
             }
+        }
+        for (long seed = 0; seed < 2000; seed++) {
+            String walk = "WwAwBwCwDwEwFwGx06x15x24s0201022";
+            Checks.due("simulate(" + seed + ", 25)", Towns.of(walk).simulate(seed, 25),
+                simulatedByHand(Towns.of(walk), seed, 25));
         }
         PlacardWalkers x = new PlacardWalkers();
         for (int m : new int[] {0, -1, 61, LOW, HIGH}) {

@@ -5,6 +5,8 @@ final class Tests {
 
     public static void main(String[] args) {
         PromiseTests.runAll();
+        LanguageTests.runAll(args.length > 0 ? args[0] : "src/main/java/PlacardWalkers.java");
+        RoomTests.runAll();
         ModelTests.runAll();
         System.out.println(Checks.passes() + " passed, " + Checks.failures() + " failed");
         System.exit(Checks.failures() == 0 ? 0 : 1);
