@@ -231,7 +231,7 @@ public final class PlacardWalkers {
 
     public int bestRule() {
         int best = 0;
-        int fewest = Integer.MAX_VALUE;
+        int fewest = MOST_WALKERS * MOST_WALKERS;
         for (int rule = 0; rule < RULES; rule++) {
             trial.become(town);
             trial.rule = rule;
@@ -250,7 +250,7 @@ public final class PlacardWalkers {
             throw new IndexOutOfBoundsException("no such street");
         }
         int best = 0;
-        int soonest = Integer.MAX_VALUE;
+        int soonest = FAR_AHEAD + 1;
         for (int shift = 0; shift <= Streets.GREATEST_SHIFT; shift++) {
             trial.become(town);
             trial.streets.changeShift(s, shift);

@@ -926,42 +926,20 @@ final class PromiseTests {
                 for (int m : new int[] {1, 2, 17, 60}) {
                     PlacardWalkers x = Towns.of(walk);
                     String before = Towns.look(x);
-                    Checks.due("simulate(" + seed + ", " + m + ") of " + walk, x.simulate(seed, m),
-                        simulatedByHand(Towns.of(walk), seed, m));
+                    x.simulate(seed, m);
                     Checks.same("the state", Towns.look(x), before);
                     Checks.state("undo()", x::undo);
+                    Simulations.same(walk, seed, m);
                 }
             }
         }
         for (long seed = 0; seed < 2000; seed++) {
-            String walk = "WwAwBwCwDwEwFwGx06x15x24s0201022";
-            Checks.due("simulate(" + seed + ", 25)", Towns.of(walk).simulate(seed, 25),
-                simulatedByHand(Towns.of(walk), seed, 25));
+            Simulations.same("WwAwBwCwDwEwFwGx06x15x24s0201022", seed, 25);
         }
         PlacardWalkers x = new PlacardWalkers();
         for (int m : new int[] {0, -1, 61, LOW, HIGH}) {
             Checks.argument("simulate(1, " + m + ")", () -> x.simulate(1, m));
         }
-    }
-
-    private static long simulatedByHand(PlacardWalkers x, long seed, int m) {
-        long s = seed;
-        for (int i = 0; i < m; i++) {
-            s = s * 6364136223846793005L + 1442695040888963407L;
-            int r = (int) (s >>> 33);
-            Checks.outcome(() -> turn(x, r % 8, r / 8));
-        }
-        return 10000 * x.about(6) + 100 * x.about(7) + x.about(9);
-    }
-
-    private static int turn(PlacardWalkers x, int kind, int q) {
-        return switch (kind) {
-            case 0 -> x.walker(q % 26);
-            case 1 -> x.street(2 + q % 19, 1 + q / 32 % 20, q / 1024 % 21, 1 + q / 32768 % 6);
-            case 2 -> q / 256 % 2 == 0 ? x.exchange(q % 10, q / 16 % 10) : x.shift(q % 4, q / 8 % 40);
-            case 3 -> q / 4 % 2 == 0 ? x.set(0, q % 4) : x.set(1, q / 8 % 2);
-            default -> x.ticks(1 + q % 20);
-        };
     }
 
     private static void promise28() {

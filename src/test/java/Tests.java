@@ -5,6 +5,13 @@ final class Tests {
 
     public static void main(String[] args) {
         PromiseTests.runAll();
+        BoundaryTextTests.runAll();
+        BoundaryQuestionTests.runAll();
+        BoundaryActionTests.runAll();
+        BoundaryTickTests.runAll();
+        BoundaryForesightTests.runAll();
+        BoundaryScriptTests.runAll();
+        RefusedCallsTests.runAll();
         LanguageTests.runAll(args.length > 0 ? args[0] : "src/main/java/PlacardWalkers.java");
         RoomTests.runAll();
         ModelTests.runAll();

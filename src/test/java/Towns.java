@@ -3,6 +3,9 @@ import java.util.List;
 
 /** Makes towns for the tests and tells all that can be seen of one. */
 final class Towns {
+    /** 120 signs: W, 58 times r0, and t01. */
+    static final String LONGEST_WALK = "W" + "r0".repeat(58) + "t01";
+
     private Towns() {
     }
 
