@@ -528,6 +528,18 @@ final class BoundaryActionTests {
             z.ticks(1);
             Checks.due("the first draw", z.read(0, 0), Draws.place(1, 6));
         });
+        Checks.run("20: takes back who was read", () -> {
+            PlacardWalkers z = Towns.of("WwAwBs0201001t05");
+            z.back();
+            z.exchange(0, 1);
+            z.ticks(5);
+            Checks.same("read the other way round", Towns.read(z, 0), "10");
+            z.undo();
+            z.undo();
+            Checks.same("read by nobody", Towns.read(z, 0), "");
+            z.undo();
+            Checks.same("read at first", Towns.read(z, 0), "01");
+        });
         Checks.run("20: an undone street is new when it comes again", () -> {
             PlacardWalkers z = Towns.of("WwAs0201001");
             z.street(2, 1, 0, 1);

@@ -139,6 +139,10 @@ final class BoundaryForesightTests {
             Checks.due("2", Towns.of("WwAwBwCx01s0201056").bestRule(), 2);
             Checks.due("3", Towns.of(TEN.substring(0, 19) + "s0402014s0501081m1x24x27x68x27x06x37").bestRule(), 3);
         });
+        Checks.run("23: with 36 and with 45 pairs the wrong way round", () -> {
+            Checks.due("bestRule()", Towns.of(TEN + "x09x18x27x36x45s0201192").bestRule(), 1);
+            Checks.due("bestRule()", Towns.of(TEN + "x09x18x27x36x45s0201191r2").bestRule(), 0);
+        });
         Checks.run("23: behind so many ticks that all have come", () -> {
             String slow = TEN + "x01x38s2001206s2001206s2001206s2001206r";
             int best = NONE;

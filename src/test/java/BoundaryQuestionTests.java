@@ -325,6 +325,12 @@ final class BoundaryQuestionTests {
             }
             Checks.due("pairs in order", Towns.of(TEN + "s0201001t99").streetOf(0, 9), 0);
         });
+        Checks.run("8: one who was read twice is no pair", () -> {
+            PlacardWalkers x = Towns.of("WwAwBs0201001s2001001t04x01t01");
+            Checks.same("read", Towns.read(x, 0), "00");
+            Checks.due("how many", x.streetOf(0, 8), 2);
+            Checks.due("pairs", x.streetOf(0, 9), 0);
+        });
     }
 
     private static void cell() {

@@ -62,6 +62,16 @@ final class BoundaryTextTests {
             Checks.due("street(2, 1, 0, 1)", x.street(2, 1, 0, 1), 0);
             Checks.due("save(0)", x.save(0), 0);
         });
+        Checks.run("1: x is 1", () -> {
+            PlacardWalkers x = new PlacardWalkers();
+            for (int k = 0; k < 6; k++) {
+                x.walker(k);
+            }
+            x.street(2, 1, 19, 6);
+            x.set(0, 3);
+            x.ticks(20);
+            Checks.due("the first draw", x.read(0, 0), Draws.place(1, 6));
+        });
     }
 
     private static void append() {
@@ -330,6 +340,15 @@ final class BoundaryTextTests {
             PlacardWalkers x = Twins.full();
             Towns.write(x, tenWalkers + fourStreets.substring(1));
             Checks.due("load()", x.load(), 0);
+        });
+        Checks.run("5: streets come new, also where there were some", () -> {
+            PlacardWalkers x = Towns.of("WwAwBs0201001s0201001b017b138t09");
+            Checks.due("read before", x.streetOf(1, 8), 2);
+            Towns.write(x, "Ws0301002s0401003");
+            x.load();
+            for (int s = 0; s <= 1; s++) {
+                streetOf(x, s, 3 + s, 1, 0, 0, 2 + s, 0, 0, 1, 0, 0);
+            }
         });
     }
 

@@ -47,7 +47,7 @@ final class LanguageTests {
         """;
     private static final String[] UNWANTED = {"import", "package", "protected", "->", "::", "finally", "catch", "try",
         "synchronized", "assert", "Exact", "volatile", "native", "transient", "var", "record", "getMessage",
-        "equals", "hashCode", "toString", "Object", "Random", "Thread"};
+        "equals", "hashCode", "toString", "Object", "Random", "Thread", "MAX_VALUE", "MIN_VALUE"};
     private static final Pattern METHOD = Pattern.compile("(?m)^( +)[^\\n;=]*\\)[^\\n;=]*\\{$");
 
     private LanguageTests() {

@@ -1,9 +1,27 @@
 /** Runs every test of the project; the first argument names the program's source. */
 final class Tests {
+    private static final long MOST_MILLISECONDS = 300_000;
+
     private Tests() {
     }
 
+    /** A call that does not end fails too. */
+    private static void endInTime() {
+        Thread watch = new Thread(() -> {
+            try {
+                Thread.sleep(MOST_MILLISECONDS);
+            } catch (InterruptedException e) {
+                return;
+            }
+            System.out.println("the tests do not end");
+            Runtime.getRuntime().halt(1);
+        });
+        watch.setDaemon(true);
+        watch.start();
+    }
+
     public static void main(String[] args) {
+        endInTime();
         PromiseTests.runAll();
         BoundaryTextTests.runAll();
         BoundaryQuestionTests.runAll();

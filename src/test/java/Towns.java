@@ -34,7 +34,7 @@ final class Towns {
 
     static String read(PlacardWalkers x, int s) {
         StringBuilder all = new StringBuilder();
-        for (int i = 0; x.read(s, i) != PlacardWalkers.NONE; i++) {
+        for (int i = 0; i < 100 && x.read(s, i) != PlacardWalkers.NONE; i++) {
             all.append(x.read(s, i));
         }
         return all.toString();
