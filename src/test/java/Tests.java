@@ -30,7 +30,10 @@ final class Tests {
         BoundaryForesightTests.runAll();
         BoundaryScriptTests.runAll();
         RefusedCallsTests.runAll();
-        LanguageTests.runAll(args.length > 0 ? args[0] : "src/main/java/PlacardWalkers.java");
+        String source = args.length > 0 ? args[0] : "src/main/java/PlacardWalkers.java";
+        LanguageTests.runAll(source);
+        CallTests.runAll(source);
+        ReadmeTests.runAll(source);
         RoomTests.runAll();
         ModelTests.runAll();
         System.out.println(Checks.passes() + " passed, " + Checks.failures() + " failed");
